@@ -61,19 +61,17 @@ final class Check {
         }
     }
 
-    /** The unit goes to the person and on to the desk and the store, all at one time. */
-    void borrowAndReturn(int person, int unit, int t, int number) {
-        due(number, "ask", person, unit, t);
-        due(number, "fetch", unit, t);
-        due(person, "handOut", unit, t);
-        due(number, "back", unit, t);
-    }
-
     /** A unit is asked for, fetched and handed out, all at one time. */
     void borrow(int person, int unit, int t, int number) {
         due(number, "ask", person, unit, t);
         due(number, "fetch", unit, t);
         due(person, "handOut", unit, t);
+    }
+
+    /** The same, and then it is given back to the desk. */
+    void borrowAndReturn(int person, int unit, int t, int number) {
+        borrow(person, unit, t, number);
+        due(number, "back", unit, t);
     }
 
     static void due(String what, Object got, Object want) {

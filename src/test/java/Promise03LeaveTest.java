@@ -3,6 +3,7 @@ public final class Promise03LeaveTest {
     public static void main(String[] args) {
         firstComeFirstServed();
         leavingTheRow();
+        everybodyWaits();
         withAUnit();
         requestsStay();
         wrongInputs();
@@ -53,6 +54,20 @@ public final class Promise03LeaveTest {
         none.due(-10, "come", 59);
         none.due(100, "leave", 59);
         none.due(-10, "come", 58);
+    }
+
+    private static void everybodyWaits() {
+        Check x = new Check("everybody waits", 0);
+        for (int person = 0; person < 60; person++) {
+            x.due(-10 - person, "come", person);
+        }
+        x.due(100, "leave", 0);
+        x.personIs(1, -1, 0);
+        x.personIs(59, -1, 58);
+        x.due(-69, "come", 0);
+        x.due(100, "leave", 0);
+        x.due(100, "leave", 59);
+        x.due(-68, "come", 59);
     }
 
     private static void withAUnit() {

@@ -73,6 +73,11 @@ public final class Promise04AskTest {
             }
             if (number == 300) {
                 x.requestIs(299, 13, 2, 0, t, -1, -1);
+                x.personIs(13, 13, -1, 3, 0, 0);
+                x.unitIs(2, 0, 0, 0, -1, 14);
+                x.due(299, "waits", 2, 13);
+                x.missing("waits", 2, 14);
+                x.due(100, "leave", 18);
                 x.due(-4, "ask", 19, 70, t);
                 x.due(-3, "ask", 50, 70, t);
                 x.due(0, "close", t);
