@@ -42,14 +42,15 @@ public final class RandomRunsTest {
     }
 
     private static void compare(Check x, PlainRoom plain, String name, int[] arguments) {
-        int want;
+        x.due(wanted(plain, name, arguments), name, arguments);
+    }
+
+    private static int wanted(PlainRoom plain, String name, int[] arguments) {
         try {
-            want = plain.answer(name, arguments);
+            return plain.answer(name, arguments);
         } catch (NoSuchElementException e) {
-            x.missing(name, arguments);
-            return;
+            return Call.MISSING;
         }
-        x.due(want, name, arguments);
     }
 
     private String name() {
